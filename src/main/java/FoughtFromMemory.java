@@ -3,12 +3,15 @@ public final class FoughtFromMemory {
     private static final int SIDE = 5;
     private static final int ROOMS = 25;
     private static final int MOST_PEOPLE = 5;
+    private static final int MOST_LETTERS = 96;
+    private static final int MOST_ROW = 25;
     private static final int MOST_FIGURE = 9;
     private static final int MOST_KNOWN = 9;
     private static final int MOST_SHARP = 9;
     private static final int LAST_NIGHT = 999;
     private static final int MOST_NIGHTS = 60;
     private static final int MOST_WAITING = 99;
+    private static final int MOST_LETTER = 255;
     private static final int MOST_LOTS = 20;
     private static final int MOST_SLIPS = 7;
     private static final int MOST_ODDS = 20;
@@ -38,7 +41,7 @@ public final class FoughtFromMemory {
     private final House trial;
     private final Blaze blaze;
     private final Telling telling;
-    private final Row numbers;
+    private final Numbers row;
     private final int[] refusals;
     private boolean imageTaken;
 
@@ -48,7 +51,7 @@ public final class FoughtFromMemory {
         trial = new House();
         blaze = new Blaze();
         telling = new Telling();
-        numbers = new Row();
+        row = new Numbers(MOST_ROW);
         refusals = new int[REFUSAL_NUMBERS + 1];
         imageTaken = false;
     }
@@ -57,16 +60,16 @@ public final class FoughtFromMemory {
         if (c < 0) {
             return refuse(BELOW);
         }
-        if (c > 255 || telling.isFull()) {
+        if (c > MOST_LETTER || telling.letters.isFull()) {
             return refuse(NO_ROOM);
         }
-        return telling.add(c);
+        return telling.letters.add(c);
     }
 
     public int house() {
         trial.become(house);
         int answer = telling.tellTo(trial);
-        telling.forget();
+        telling.letters.forget();
         if (answer >= 0) {
             house.become(trial);
         }
@@ -415,10 +418,10 @@ public final class FoughtFromMemory {
         if (v < 0) {
             return refuse(BELOW);
         }
-        if (v > ROW_NONE || numbers.isFull()) {
+        if (v > ROW_NONE || row.isFull()) {
             return refuse(NO_ROOM);
         }
-        return numbers.add(v);
+        return row.add(v);
     }
 
     public int judge(int room) {
@@ -427,18 +430,18 @@ public final class FoughtFromMemory {
         }
         burnAsNow(room, 0);
         int wrong = NONE;
-        for (int place = 0; place < numbers.told && wrong == NONE; place++) {
-            if (numbers.at(place) != asRowTells(blaze.roomSaidIn(place + 1))) {
+        for (int place = 0; place < row.told && wrong == NONE; place++) {
+            if (row.at(place) != asRowTells(blaze.roomSaidIn(place + 1))) {
                 wrong = place;
             }
         }
-        numbers.forget();
+        row.forget();
         return wrong;
     }
 
     public int clear() {
-        int had = numbers.told;
-        numbers.forget();
+        int had = row.told;
+        row.forget();
         return had;
     }
 
@@ -498,9 +501,9 @@ public final class FoughtFromMemory {
             case 5:
                 return house.allKnown();
             case 6:
-                return numbers.told;
+                return row.told;
             case 7:
-                return telling.told;
+                return telling.letters.told;
             default:
                 return what > 10 && what <= 10 + REFUSAL_NUMBERS ? refusals[what - 10] : NONE;
         }
@@ -605,8 +608,8 @@ public final class FoughtFromMemory {
         blaze.lookAt(trial);
         blaze.letAllSpeak(0);
         blaze.burn(room, 0);
-        for (int place = 0; place < numbers.told; place++) {
-            if (numbers.at(place) != asRowTells(blaze.minuteBurnt(place))) {
+        for (int place = 0; place < row.told; place++) {
+            if (row.at(place) != asRowTells(blaze.minuteBurnt(place))) {
                 return false;
             }
         }
@@ -797,8 +800,11 @@ public final class FoughtFromMemory {
 
         int roomsSayableBy(int person) {
             int rooms = 0;
+            if (!hasPerson(person)) {
+                return rooms;
+            }
             for (int room = 0; room < ROOMS; room++) {
-                if (knownBy(person, room) >= needsOf(room)) {
+                if (known[person * ROOMS + room] >= Kinds.needs(kinds[room])) {
                     rooms |= 1 << room;
                 }
             }
@@ -850,34 +856,46 @@ public final class FoughtFromMemory {
         }
     }
 
-    /** The letters of a HOUSE that is being told. */
-    private static final class Telling {
-        private static final int MOST_LETTERS = 96;
-        private static final int STRAY = -1000;
-        private static final int AMISS = -2000;
-
-        private final int[] letters;
+    /** Numbers that are told one by one, so many at most. */
+    private static final class Numbers {
+        private final int[] numbers;
         private int told;
 
-        Telling() {
-            letters = new int[MOST_LETTERS];
+        Numbers(int most) {
+            numbers = new int[Math.max(0, most)];
             told = 0;
         }
 
         boolean isFull() {
-            return told >= MOST_LETTERS;
+            return told >= numbers.length;
         }
 
-        int add(int letter) {
-            if (told >= 0 && told < MOST_LETTERS) {
-                letters[told] = letter;
+        int add(int number) {
+            if (told >= 0 && told < numbers.length) {
+                numbers[told] = number;
                 told++;
             }
             return told;
         }
 
+        int at(int place) {
+            return place >= 0 && place < told && place < numbers.length ? numbers[place] : NONE;
+        }
+
         void forget() {
             told = 0;
+        }
+    }
+
+    /** The letters of a HOUSE and what they say. */
+    private static final class Telling {
+        private static final int STRAY = -1000;
+        private static final int AMISS = -2000;
+
+        private final Numbers letters;
+
+        Telling() {
+            letters = new Numbers(MOST_LETTERS);
         }
 
         /** How many STATEMENTS changed this house, or the FAULT, with which it is of no use any more. */
@@ -888,23 +906,23 @@ public final class FoughtFromMemory {
             }
             int place = 0;
             int statements = 0;
-            while (place < told && statements < MOST_LETTERS) {
+            while (place < letters.told && statements < MOST_LETTERS) {
                 if (!tellStatement(place, some)) {
                     return AMISS - place;
                 }
-                place += formOf(letterAt(place)).length();
+                place += formOf(letters.at(place)).length();
                 statements++;
             }
             return statements;
         }
 
         private int firstStray() {
-            if (told == 0) {
+            if (letters.told == 0) {
                 return 0;
             }
             int place = 0;
-            for (int i = 0; i < MOST_LETTERS && place < told; i++) {
-                String form = formOf(letterAt(place));
+            for (int i = 0; i < MOST_LETTERS && place < letters.told; i++) {
+                String form = formOf(letters.at(place));
                 int fitting = fittingLetters(form, place);
                 if (form.isEmpty() || fitting < form.length()) {
                     return place + fitting;
@@ -916,7 +934,7 @@ public final class FoughtFromMemory {
 
         private int fittingLetters(String form, int place) {
             for (int i = 0; i < form.length(); i++) {
-                if (!fits(letterAt(place + i), form.charAt(i))) {
+                if (!fits(letters.at(place + i), form.charAt(i))) {
                     return i;
                 }
             }
@@ -953,7 +971,7 @@ public final class FoughtFromMemory {
         }
 
         private boolean tellStatement(int place, House some) {
-            switch (letterAt(place)) {
+            switch (letters.at(place)) {
                 case 'r':
                     return tellThings(place, pairAt(place + 2), digitAt(place + 4), some);
                 case 'v':
@@ -970,7 +988,7 @@ public final class FoughtFromMemory {
         }
 
         private boolean tellThings(int place, int last, int figure, House some) {
-            int kind = kindOfLetter(letterAt(place + 1));
+            int kind = kindOfLetter(letters.at(place + 1));
             int first = pairAt(place + 2);
             if (first > last || last >= ROOMS) {
                 return false;
@@ -1011,47 +1029,12 @@ public final class FoughtFromMemory {
             return NONE;
         }
 
-        private int letterAt(int place) {
-            return place >= 0 && place < told && place < MOST_LETTERS ? letters[place] : NONE;
-        }
-
         private int digitAt(int place) {
-            return letterAt(place) - '0';
+            return letters.at(place) - '0';
         }
 
         private int pairAt(int place) {
             return 10 * digitAt(place) + digitAt(place + 1);
-        }
-    }
-
-    /** The numbers of a ROW. */
-    private static final class Row {
-        private final int[] numbers;
-        private int told;
-
-        Row() {
-            numbers = new int[ROOMS];
-            told = 0;
-        }
-
-        boolean isFull() {
-            return told >= ROOMS;
-        }
-
-        int add(int number) {
-            if (told >= 0 && told < ROOMS) {
-                numbers[told] = number;
-                told++;
-            }
-            return told;
-        }
-
-        int at(int place) {
-            return place >= 0 && place < told && place < ROOMS ? numbers[place] : NONE;
-        }
-
-        void forget() {
-            told = 0;
         }
     }
 
@@ -1065,8 +1048,8 @@ public final class FoughtFromMemory {
         private static final int LEFT_COLUMN = 0x108421;
         private static final int RIGHT_COLUMN = LEFT_COLUMN << (SIDE - 1);
         private static final int SLOWEST = 4;
-        /** Each of 24 ROOMS burns at most SLOWEST minutes behind one before it. */
-        private static final int MINUTES = 24 * SLOWEST + SLOWEST + 2;
+        /** 24 ROOMS burn at most SLOWEST minutes each behind one before it; behind the last one come SLOWEST more. */
+        private static final int MINUTES = ROOMS * SLOWEST + 1;
 
         private final int[] catching;
         private final int[] worths;
@@ -1098,8 +1081,9 @@ public final class FoughtFromMemory {
                 catching[i] = 0;
             }
             for (int room = 0; room < ROOMS; room++) {
-                worths[room] = some.worthOf(room);
-                int minutes = some.catchesOf(room);
+                int kind = some.kinds[room];
+                worths[room] = Kinds.worth(kind, some.figures[room]);
+                int minutes = Kinds.catches(kind);
                 if (minutes > 0 && minutes <= SLOWEST) {
                     catching[minutes] |= 1 << room;
                 }
