@@ -1102,7 +1102,7 @@ public final class FoughtFromMemory {
             speakers = 0;
             for (int i = 0; i < people; i++) {
                 int person = Math.floorMod(first + i, people);
-                if ((some >> person & 1) == 1) {
+                if ((some >> person & 1) == 1 && speakers < MOST_PEOPLE) {
                     order[speakers] = person;
                     speakers++;
                 }
@@ -1155,6 +1155,9 @@ public final class FoughtFromMemory {
         }
 
         private void spreadFrom(int start) {
+            if (start < 1 || start >= MINUTES) {
+                return;
+            }
             lastFresh = start - 1;
             while (lastFresh > 0 && fresh[lastFresh] == 0) {
                 lastFresh--;
@@ -1172,10 +1175,16 @@ public final class FoughtFromMemory {
 
         private int caughtIn(int minute) {
             int caught = 0;
-            for (int ago = 1; ago <= SLOWEST && ago <= minute; ago++) {
-                caught |= catching[ago] & beside[minute - ago];
+            for (int ago = 1; ago <= SLOWEST; ago++) {
+                if (minute >= ago && minute - ago < MINUTES) {
+                    caught |= catching[ago] & beside[minute - ago];
+                }
             }
             return caught;
+        }
+
+        private static boolean isMinute(int minute) {
+            return minute >= 0 && minute < MINUTES;
         }
 
         private static int allBeside(int some) {
@@ -1199,7 +1208,7 @@ public final class FoughtFromMemory {
         }
 
         private int burnt() {
-            return burning[lastFresh];
+            return isMinute(lastFresh) ? burning[lastFresh] : 0;
         }
 
         int lastMinute() {
@@ -1207,7 +1216,7 @@ public final class FoughtFromMemory {
         }
 
         int minuteBurnt(int room) {
-            for (int minute = 0; minute <= lastFresh; minute++) {
+            for (int minute = 0; minute < MINUTES && minute <= lastFresh; minute++) {
                 if ((fresh[minute] >> room & 1) == 1) {
                     return minute;
                 }
@@ -1216,12 +1225,12 @@ public final class FoughtFromMemory {
         }
 
         int roomSaidIn(int minute) {
-            return minute >= 1 && minute <= spokenMinutes ? saidIn[minute] : NONE;
+            return minute >= 1 && minute <= spokenMinutes && isMinute(minute) ? saidIn[minute] : NONE;
         }
 
         int minuteSaid(int room) {
             for (int minute = 1; minute <= spokenMinutes; minute++) {
-                if (saidIn[minute] == room) {
+                if (roomSaidIn(minute) == room) {
                     return minute;
                 }
             }
@@ -1229,13 +1238,16 @@ public final class FoughtFromMemory {
         }
 
         int speakerIn(int minute) {
-            return minute >= 1 && speakers > 0 ? order[(minute - 1) % speakers] : NONE;
+            if (minute < 1 || speakers < 1 || speakers > MOST_PEOPLE) {
+                return NONE;
+            }
+            return order[(minute - 1) % speakers];
         }
 
         int timesSpoken(int person) {
             int times = 0;
             for (int minute = 1; minute <= spokenMinutes; minute++) {
-                if (saidIn[minute] != NONE && speakerIn(minute) == person) {
+                if (roomSaidIn(minute) != NONE && speakerIn(minute) == person) {
                     times++;
                 }
             }
