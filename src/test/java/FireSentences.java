@@ -185,6 +185,13 @@ final class FireSentences {
         s.due("without a soonest, behind a wall", y.said(0, 0, 2, 0), -9);
         s.due("without a soonest, far off", y.said(0, 0, 24, 0), -9);
         s.due("a wall has none", y.said(0, 0, 1, 0), -9);
+        FoughtFromMemory z = Sentences.told("vd00241;p9;k024249;");
+        s.due("all burns, the last room at last", z.alone(0), 25);
+        z.turn(2, 4, 0);
+        z.turn(5, 4, 0);
+        z.turn(6, 4, 0);
+        s.due("without a soonest in a later fire", z.said(0, 0, 24, 0), -9);
+        s.due("though that one goes on for a while", z.fire(0, 0, 2), 4);
     }
 
     private void saysInTime() {

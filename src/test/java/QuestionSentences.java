@@ -68,6 +68,12 @@ final class QuestionSentences {
         s.due("said in time", x.burns(0, 1, 1), -9);
         s.due("a wall", x.burns(0, 0, 5), -9);
         s.due("the last room, far off", x.burns(0, 0, 24), -9);
+        FoughtFromMemory y = Sentences.told("vd00240;");
+        s.due("late", y.burns(0, 0, 24), 32);
+        y.turn(1, 4, 0);
+        y.turn(5, 4, 0);
+        s.due("never in a later fire that stays alone", y.burns(0, 0, 24), -9);
+        s.due("nor its last minute", y.fire(0, 0, 2), 0);
     }
 
     private void said() {
@@ -80,6 +86,13 @@ final class QuestionSentences {
         s.due("where it begins", x.said(0, 1, 0, 0), -9);
         s.due("by nobody", x.said(0, 1, 0, 1), -9);
         s.due("by person 0", Sentences.told(LINEN + "p1;k001011;").said(0, 0, 1, 1), 0);
+        FoughtFromMemory y = Sentences.told("p9;k000249;");
+        s.due("in the eighth minute", y.said(12, 0, 24, 0), 8);
+        y.turn(1, 4, 0);
+        y.turn(5, 4, 0);
+        s.due("not in a later fire that stays alone", y.said(0, 0, 24, 0), -9);
+        s.due("nor by anybody", y.said(0, 0, 24, 1), -9);
+        s.due("nobody says anything in it", y.talker(0, 0), -9);
     }
 
     private void talks() {
@@ -190,6 +203,7 @@ final class QuestionSentences {
         s.due("nobody", new FoughtFromMemory().leftOut(0), -9);
         s.due("one who knows nothing", Sentences.told(LINEN + "p1;").leftOut(0), 0);
         s.due("five who know nothing", Sentences.told(LINEN + "p1;p1;p1;p1;p1;").leftOut(0), 0);
+        s.due("nothing that is worth anything burns", Sentences.told("vw00240;p1;p1;").leftOut(12), 0);
         s.due("the turn of 0 is skipped", Sentences.told(LINEN + "p1;p1;k101011;").leftOut(0), 1);
         // With all five the last one comes in minute 5, a minute late; without one of the others just in time.
         s.due("the last of five", Sentences.told(DOOR + "p1;p1;p1;p1;p1;k401011;").leftOut(0), 4);
